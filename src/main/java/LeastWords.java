@@ -686,16 +686,19 @@ public final class LeastWords {
         private byte[] text = new byte[0];
         private int length;
         private int behind;
-        private int value;
         private int at;
         int many;
+        /** What stands there now. */
+        Token kind = Token.END;
+        int start;
+        int value;
 
         /** All are found ahead of the parsing, which so has none but whole tokens to look at. */
         void open(byte[] bytes, int bytesUsed) {
             text = bytes;
             length = Math.min(Math.min(bytesUsed, bytes.length), MOST_BYTES);
             behind = 0;
-            at = 0;
+            at = NONE;
             many = 0;
             Token found = Token.BAD;
             for (int i = 0; i <= MOST_BYTES && found != Token.END; i++) {
@@ -706,23 +709,15 @@ public final class LeastWords {
                 values[i] = value;
                 many++;
             }
-        }
-
-        boolean stands(Token token) {
-            return kinds[at] == token;
-        }
-
-        int start() {
-            return starts[at];
-        }
-
-        int number() {
-            return values[at];
+            next();
         }
 
         void next() {
             if (at + 1 < many) {
                 at++;
+                kind = kinds[at];
+                start = starts[at];
+                value = values[at];
             }
         }
 
@@ -810,17 +805,13 @@ public final class LeastWords {
 
         private void fail(int kind) {
             if (fault == 0) {
-                fault = kind;
-                place = tokens.start();
+                fault = tokens.kind == Token.BAD ? NO_TOKEN : kind;
+                place = tokens.start;
             }
         }
 
-        private void refuse() {
-            fail(tokens.stands(Token.BAD) ? NO_TOKEN : OUT_OF_PLACE);
-        }
-
         private boolean stands(Token token) {
-            return fault == 0 && tokens.stands(token);
+            return fault == 0 && tokens.kind == token;
         }
 
         private boolean takeIf(Token token) {
@@ -833,17 +824,17 @@ public final class LeastWords {
 
         private void take(Token token) {
             if (!takeIf(token)) {
-                refuse();
+                fail(OUT_OF_PLACE);
             }
         }
 
         /** The number that stands there; the lowest one it may be, if there is a fault. */
         private int takeNumber(int low, int high) {
             if (!stands(Token.NUMBER)) {
-                refuse();
+                fail(OUT_OF_PLACE);
                 return low;
             }
-            int value = tokens.number();
+            int value = tokens.value;
             if (value < low || value > high) {
                 fail(OUT_OF_BOUNDS);
                 return low;
@@ -864,7 +855,7 @@ public final class LeastWords {
             } else if (takeIf(Token.PEOPLE)) {
                 plan.people = takeNumber(1, MOST_PEOPLE);
             } else {
-                refuse();
+                fail(OUT_OF_PLACE);
             }
         }
 
@@ -1009,7 +1000,7 @@ public final class LeastWords {
 
         private void readAtom(int nested) {
             if (stands(Token.NUMBER)) {
-                emit(Reckoner.NUMBER, tokens.number());
+                emit(Reckoner.NUMBER, tokens.value);
                 tokens.next();
             } else if (takeIf(Token.MARK)) {
                 int m = takeNumber(0, plan.marks - 1);
@@ -1035,7 +1026,7 @@ public final class LeastWords {
             } else if (takeIf(Token.ALIKE)) {
                 emit(Reckoner.ALIKE, 0);
             } else {
-                refuse();
+                fail(OUT_OF_PLACE);
             }
             noteRead(0, plan.marks - 1);
         }
@@ -1183,7 +1174,7 @@ public final class LeastWords {
         }
 
         private static int kept(long far) {
-            return (int) Math.max(-FAR, Math.min(FAR, far));
+            return far > FAR ? FAR : far < -FAR ? -FAR : (int) far;
         }
 
         private int someLooks(int number) {
