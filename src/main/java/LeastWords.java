@@ -773,11 +773,11 @@ public final class LeastWords {
         private static final int OUT_OF_PLACE = 2;
         private static final int OUT_OF_BOUNDS = 3;
         private static final int TOO_MANY = 4;
+        /** Three digits. */
+        private static final int MOST_NUMBER = 999;
 
         private final Tokens tokens = new Tokens();
         private int cells;
-        private int lastRead;
-        private int read;
         private Plan plan = new Plan();
         int fault;
         int place = NONE;
@@ -796,7 +796,10 @@ public final class LeastWords {
             take(Token.SEMICOLON);
             plan.lines = 1;
             for (int i = 0; i < MOST_BYTES && fault == 0 && !stands(Token.END); i++) {
-                readLine();
+                if (readLine()) {
+                    readTruth(0);
+                    endWord();
+                }
                 take(Token.SEMICOLON);
                 plan.lines++;
             }
@@ -823,7 +826,9 @@ public final class LeastWords {
         }
 
         private void take(Token token) {
-            if (!takeIf(token)) {
+            if (stands(token)) {
+                tokens.next();
+            } else {
                 fail(OUT_OF_PLACE);
             }
         }
@@ -843,11 +848,13 @@ public final class LeastWords {
             return value;
         }
 
-        private void readLine() {
+        /** Whether a TRUTH comes next: the line is a word's. All else of a line is read here. */
+        private boolean readLine() {
+            if (stands(Token.WORD)) {
+                return readWord();
+            }
             if (stands(Token.CHEST) || stands(Token.SPARE)) {
                 readChest();
-            } else if (stands(Token.WORD)) {
-                readWord();
             } else if (stands(Token.LAMP)) {
                 readLamp();
             } else if (takeIf(Token.HIRE)) {
@@ -857,6 +864,7 @@ public final class LeastWords {
             } else {
                 fail(OUT_OF_PLACE);
             }
+            return false;
         }
 
         private void readChest() {
@@ -889,11 +897,11 @@ public final class LeastWords {
             plan.addLamp(m, is, looks);
         }
 
-        private void readWord() {
+        private boolean readWord() {
             int w = plan.words;
             if (w >= MOST_WORDS) {
                 fail(TOO_MANY);
-                return;
+                return false;
             }
             tokens.next();
             if (takeIf(Token.SOUND)) {
@@ -901,13 +909,15 @@ public final class LeastWords {
             }
             plan.costs[w] = takeIf(Token.COST) ? takeNumber(1, 9) : 1;
             take(Token.COLON);
-            lastRead = NONE;
-            read = 0;
-            readTruth(0);
+            plan.lastRead[w] = NONE;
+            return fault == 0;
+        }
+
+        private void endWord() {
             plan.words++;
-            plan.starts[w + 1] = cells;
-            plan.lastRead[w] = lastRead;
-            plan.read |= read;
+            if (plan.words < plan.starts.length) {
+                plan.starts[plan.words] = cells;
+            }
         }
 
         private void emit(int deed, int number) {
@@ -917,14 +927,17 @@ public final class LeastWords {
             }
         }
 
+        /** The WORD that is read now reads these MARKS. */
         private void noteRead(int from, int to) {
             for (int m = from; m <= to; m++) {
-                read |= 1 << m;
+                plan.read |= 1 << m;
             }
-            lastRead = Math.max(lastRead, to);
+            if (plan.words < MOST_WORDS) {
+                plan.lastRead[plan.words] = Math.max(plan.lastRead[plan.words], to);
+            }
         }
 
-        /** Whether one more of not [ ( may stand within so many. */
+        /** Whether one more of not [ ( may stand within so many; it is taken then. */
         private boolean mayNest(int nested) {
             if (nested >= MOST_NESTED) {
                 fail(TOO_MANY);
@@ -934,19 +947,25 @@ public final class LeastWords {
             return true;
         }
 
+        /** An or waits for its right side, since an and there binds closer. */
         private void readTruth(int nested) {
-            readBoth(nested);
-            for (int i = 0; i < MOST_BYTES && takeIf(Token.OR); i++) {
-                readBoth(nested);
-                emit(Reckoner.OR, 0);
-            }
-        }
-
-        private void readBoth(int nested) {
+            boolean waits = false;
             readUnit(nested);
-            for (int i = 0; i < MOST_BYTES && takeIf(Token.AND); i++) {
-                readUnit(nested);
-                emit(Reckoner.AND, 0);
+            for (int i = 0; i < MOST_BYTES && (stands(Token.AND) || stands(Token.OR)); i++) {
+                if (takeIf(Token.AND)) {
+                    readUnit(nested);
+                    emit(Reckoner.AND, 0);
+                } else {
+                    if (waits) {
+                        emit(Reckoner.OR, 0);
+                    }
+                    waits = true;
+                    tokens.next();
+                    readUnit(nested);
+                }
+            }
+            if (waits) {
+                emit(Reckoner.OR, 0);
             }
         }
 
@@ -980,55 +999,53 @@ public final class LeastWords {
             return Reckoner.ABOVE;
         }
 
+        /** A + or - waits for its right side, since a * there binds closer. */
         private void readSum(int nested) {
-            readTerm(nested);
-            for (int i = 0; i < MOST_BYTES && (stands(Token.PLUS) || stands(Token.MINUS)); i++) {
-                int deed = stands(Token.PLUS) ? Reckoner.ADD : Reckoner.TAKE;
-                tokens.next();
-                readTerm(nested);
-                emit(deed, 0);
-            }
-        }
-
-        private void readTerm(int nested) {
+            int waiting = NONE;
             readAtom(nested);
-            for (int i = 0; i < MOST_BYTES && takeIf(Token.TIMES); i++) {
-                readAtom(nested);
-                emit(Reckoner.TIMES, 0);
+            for (int i = 0; i < MOST_BYTES
+                    && (stands(Token.TIMES) || stands(Token.PLUS) || stands(Token.MINUS)); i++) {
+                if (takeIf(Token.TIMES)) {
+                    readAtom(nested);
+                    emit(Reckoner.TIMES, 0);
+                } else {
+                    if (waiting != NONE) {
+                        emit(waiting, 0);
+                    }
+                    waiting = stands(Token.PLUS) ? Reckoner.ADD : Reckoner.TAKE;
+                    tokens.next();
+                    readAtom(nested);
+                }
+            }
+            if (waiting != NONE) {
+                emit(waiting, 0);
             }
         }
 
         private void readAtom(int nested) {
             if (stands(Token.NUMBER)) {
-                emit(Reckoner.NUMBER, tokens.value);
-                tokens.next();
+                emit(Reckoner.NUMBER, takeNumber(0, MOST_NUMBER));
             } else if (takeIf(Token.MARK)) {
                 int m = takeNumber(0, plan.marks - 1);
                 noteRead(m, m);
                 emit(Reckoner.MARK, m);
-            } else if (stands(Token.OPEN_SUM)) {
-                if (mayNest(nested)) {
-                    readSum(nested + 1);
-                    take(Token.CLOSE_SUM);
-                }
-            } else if (takeIf(Token.OWN_NUMBER)) {
-                emit(Reckoner.OWN_NUMBER, 0);
-            } else {
-                readAtomOfAll();
-            }
-        }
-
-        private void readAtomOfAll() {
-            if (takeIf(Token.HAS)) {
+            } else if (takeIf(Token.HAS)) {
+                noteRead(0, plan.marks - 1);
                 emit(Reckoner.HAS, takeNumber(0, NUMBERS_A_MARK - 1));
             } else if (takeIf(Token.SUM)) {
+                noteRead(0, plan.marks - 1);
                 emit(Reckoner.SUM, 0);
             } else if (takeIf(Token.ALIKE)) {
+                noteRead(0, plan.marks - 1);
                 emit(Reckoner.ALIKE, 0);
-            } else {
+            } else if (takeIf(Token.OWN_NUMBER)) {
+                emit(Reckoner.OWN_NUMBER, 0);
+            } else if (!stands(Token.OPEN_SUM)) {
                 fail(OUT_OF_PLACE);
+            } else if (mayNest(nested)) {
+                readSum(nested + 1);
+                take(Token.CLOSE_SUM);
             }
-            noteRead(0, plan.marks - 1);
         }
     }
 
