@@ -82,80 +82,68 @@ public final class HallTests {
         hands.due(3, "spare ones are out", x.count(3), 2);
     }
 
-    private static void fault(String text, int kind, int place) {
-        LeastWords x = new LeastWords();
-        int answer = Hands.open(x, text);
-        hands.due(3, "hall of " + text, answer, -10 - kind);
-        hands.due(4, "fault(0) of " + text, x.fault(0), kind);
-        hands.due(4, "fault(1) of " + text, x.fault(1), place);
-    }
-
-    private static void right(String text, int lines) {
-        hands.due(3, "hall of " + text, Hands.open(new LeastWords(), text), lines);
-    }
-
     private static void faults() {
-        fault("", 2, 0);
-        fault("  \n", 2, 3);
-        fault("Marks 1;", 1, 0);
-        fault("marks\t1;", 1, 5);
-        fault("marks 0001;", 1, 6);
-        fault("marks 12345;", 1, 6);
-        right("marks 001;", 1);
-        right("marks1;chest1;", 2);
-        right("\n marks\n2 ; chest 1\n2;\n ", 2);
-        fault("marks 0;", 3, 6);
-        fault("marks 999;", 3, 6);
-        fault("marks;", 2, 5);
-        fault("marks 1", 2, 7);
-        fault("marks 1  ", 2, 9);
-        fault("marks 1; ;", 2, 9);
-        fault("marks 1;chests 1;", 2, 8);
-        fault("marks 1;chest 1 !", 1, 16);
-        fault("marks 2;chest 1 10;", 3, 16);
-        fault("marks 2;chest 1 2 10;", 2, 18);
-        fault("marks 2;chest 1 2 1000;", 1, 18);
-        fault("marks 1;word cost 1 sound:1=1;", 2, 20);
-        fault("marks 1;word cost 10:1=1;", 3, 18);
-        fault("marks 1;word cost:1=1;", 2, 17);
-        fault("marks 1;word:;", 2, 13);
-        fault("marks 1;word:1=1=1;", 2, 16);
-        fault("marks 1;word:[1=1;", 2, 17);
-        fault("marks 1;word:1=1];", 2, 16);
-        fault("marks 1;word:(1=1);", 2, 15);
-        fault("marks 1;word:[1]=1;", 2, 15);
-        fault("marks 1;word:1=-1;", 2, 15);
-        fault("marks 1;word:not;", 2, 16);
-        fault("marks 1;word:1=1 or;", 2, 19);
-        fault("marks 1;word:m=1;", 2, 14);
-        fault("marks 1;word:has sum=1;", 2, 17);
-        fault("marks 3;word:m 3=1;", 3, 15);
-        fault("marks 1;word:has 10=1;", 3, 17);
-        fault("marks 2;lamp 2 1 1;", 3, 13);
-        fault("marks 1;lamp 0 10 1;", 3, 15);
-        fault("marks 1;lamp 0 1;", 2, 16);
-        fault("marks 1;lamp 0 1 10;", 3, 17);
-        fault("marks 1;hire;", 2, 12);
-        fault("marks 1;people 7;", 3, 15);
-        fault("marks 1;word:((((((1))))))=1;word:(((((((1)))))))=1;", 4, 40);
-        fault("marks 1;word:not[not[[(1)=1 and((1))=1]]];", 4, 32);
-        right("marks 1;word:not[not[not[1=1 and 1=1]]]and not[[[[(1)=1]]]];", 2);
-        right("marks 1;word:(1)=(1)+(1)*(1)or(1)<(1)and[(1)>(1)]or not(1)=(1);", 2);
-        right("marks 6;word:m 5+has 9-sum*alike<number;", 2);
+        hands.fault("", 2, 0);
+        hands.fault("  \n", 2, 3);
+        hands.fault("Marks 1;", 1, 0);
+        hands.fault("marks\t1;", 1, 5);
+        hands.fault("marks 0001;", 1, 6);
+        hands.fault("marks 12345;", 1, 6);
+        hands.right("marks 001;", 1);
+        hands.right("marks1;chest1;", 2);
+        hands.right("\n marks\n2 ; chest 1\n2;\n ", 2);
+        hands.fault("marks 0;", 3, 6);
+        hands.fault("marks 999;", 3, 6);
+        hands.fault("marks;", 2, 5);
+        hands.fault("marks 1", 2, 7);
+        hands.fault("marks 1  ", 2, 9);
+        hands.fault("marks 1; ;", 2, 9);
+        hands.fault("marks 1;chests 1;", 2, 8);
+        hands.fault("marks 1;chest 1 !", 1, 16);
+        hands.fault("marks 2;chest 1 10;", 3, 16);
+        hands.fault("marks 2;chest 1 2 10;", 2, 18);
+        hands.fault("marks 2;chest 1 2 1000;", 1, 18);
+        hands.fault("marks 1;word cost 1 sound:1=1;", 2, 20);
+        hands.fault("marks 1;word cost 10:1=1;", 3, 18);
+        hands.fault("marks 1;word cost:1=1;", 2, 17);
+        hands.fault("marks 1;word:;", 2, 13);
+        hands.fault("marks 1;word:1=1=1;", 2, 16);
+        hands.fault("marks 1;word:[1=1;", 2, 17);
+        hands.fault("marks 1;word:1=1];", 2, 16);
+        hands.fault("marks 1;word:(1=1);", 2, 15);
+        hands.fault("marks 1;word:[1]=1;", 2, 15);
+        hands.fault("marks 1;word:1=-1;", 2, 15);
+        hands.fault("marks 1;word:not;", 2, 16);
+        hands.fault("marks 1;word:1=1 or;", 2, 19);
+        hands.fault("marks 1;word:m=1;", 2, 14);
+        hands.fault("marks 1;word:has sum=1;", 2, 17);
+        hands.fault("marks 3;word:m 3=1;", 3, 15);
+        hands.fault("marks 1;word:has 10=1;", 3, 17);
+        hands.fault("marks 2;lamp 2 1 1;", 3, 13);
+        hands.fault("marks 1;lamp 0 10 1;", 3, 15);
+        hands.fault("marks 1;lamp 0 1;", 2, 16);
+        hands.fault("marks 1;lamp 0 1 10;", 3, 17);
+        hands.fault("marks 1;hire;", 2, 12);
+        hands.fault("marks 1;people 7;", 3, 15);
+        hands.fault("marks 1;word:((((((1))))))=1;word:(((((((1)))))))=1;", 4, 40);
+        hands.fault("marks 1;word:not[not[[(1)=1 and((1))=1]]];", 4, 32);
+        hands.right("marks 1;word:not[not[not[1=1 and 1=1]]]and not[[[[(1)=1]]]];", 2);
+        hands.right("marks 1;word:(1)=(1)+(1)*(1)or(1)<(1)and[(1)>(1)]or not(1)=(1);", 2);
+        hands.right("marks 6;word:m 5+has 9-sum*alike<number;", 2);
         limits();
     }
 
     private static void limits() {
         String chests = "marks 1;" + "chest 1;".repeat(7) + "spare 1;".repeat(7);
-        right(chests, 15);
-        fault(chests + "spare 1;", 4, 8 + 14 * 8);
-        fault(chests + "chest", 4, 8 + 14 * 8);
+        hands.right(chests, 15);
+        hands.fault(chests + "spare 1;", 4, 8 + 14 * 8);
+        hands.fault(chests + "chest", 4, 8 + 14 * 8);
         String words = "marks 1;" + "word:1=1;".repeat(10);
-        right(words, 11);
-        fault(words + "word", 4, 8 + 10 * 9);
+        hands.right(words, 11);
+        hands.fault(words + "word", 4, 8 + 10 * 9);
         String lamps = "marks 1;" + "lamp 0 1 2;".repeat(8);
-        right(lamps, 9);
-        fault(lamps + "lamp 0 1 2;", 4, 8 + 8 * 11);
+        hands.right(lamps, 9);
+        hands.fault(lamps + "lamp 0 1 2;", 4, 8 + 8 * 11);
         String longest = "marks 1;word:" + "1+".repeat(440) + "1=441;";
         hands.due(3, "900 bytes", longest.length(), 900 - 1);
         LeastWords x = new LeastWords();

@@ -52,7 +52,8 @@ public final class RandomRuns {
         int before = wrong;
         for (int i = 0; i < 150 && wrong == before; i++) {
             if (i == 3 || random.nextInt(40) == 0) {
-                feedText(new TextMaker(random).text());
+                TextMaker maker = new TextMaker(random);
+                feedText(random.nextInt(5) == 0 ? maker.table() : maker.text());
             }
             Method m = face.get(random.nextInt(face.size()));
             if (!m.getName().equals("feed") && !m.getName().equals("hall") || random.nextInt(10) == 0) {

@@ -45,6 +45,23 @@ final class TextMaker {
         return random.nextInt(4) == 0 ? spoilt(t) : t.toString();
     }
 
+    /** Many CHESTS, each WORD a table of those for which it holds: few of them are alike. */
+    String table() {
+        StringBuilder t = new StringBuilder("marks 1;");
+        int chests = 6 + random.nextInt(9);
+        for (int c = 0; c < chests; c++) {
+            t.append(random.nextInt(8) == 0 ? "spare 1;" : "chest 1;");
+        }
+        for (int w = 4 + random.nextInt(4); w > 0; w--) {
+            t.append("word cost ").append(1 + random.nextInt(3)).append(":number<0");
+            for (int c = 0; c < chests; c++) {
+                t.append(random.nextBoolean() ? " or number=" + c : "");
+            }
+            t.append(';');
+        }
+        return t.toString();
+    }
+
     private String spoilt(StringBuilder t) {
         String bits = ";:+-*()[]=<>\n 0123456789aboundm\t!A";
         String[] pieces = {"marks", "chest 1;", "word:", "not ", "not not not ", "[", "((((((", "]", ")", "1000",
